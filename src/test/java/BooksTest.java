@@ -92,6 +92,18 @@ public final class BooksTest {
         x.takeBack();
         x.end();
         Check.due(-10, "two entered, one of them twice, and one was taken back", () -> x.balance(0));
+
+        Theatrehouse late = Houses.withPeople(2);
+        late.addWork(2, 1);
+        late.setRole(0, 1, 1);
+        late.addCue(0, 'e', 0, 0, 60, 0);
+        late.addCue(0, 'e', 1, 0, 60, 0);
+        late.addCue(0, 'c', 0, 0, 60, 0);
+        late.addCue(0, 'c', 0, 0, 60, 0);
+        Houses.open(late);
+        Houses.perform(late, 1, 2, 3);
+        late.end();
+        Check.due(-30, "the second role alone entered", () -> late.balance(0));
     }
 
     private static void sung() {
@@ -208,30 +220,44 @@ public final class BooksTest {
     /** No call breaks an invariant, so the test does it from inside: the check must see it. */
     private static void isNotConsistent() throws ReflectiveOperationException {
         Theatrehouse x = Houses.withPeople(2);
-        Object person = Array.get(get(x, "people"), 1);
-        set(person, "voice", 22);
-        Check.due(false, "a voice above the greatest one", () -> x.isConsistent());
-        set(person, "voice", -1);
-        Check.due(false, "a voice below 0", () -> x.isConsistent());
-        set(person, "voice", 0);
-        Check.due(true, "a voice of 0", () -> x.isConsistent());
-
-        for (String broken : new String[] {"rowLength", "orderCounts", "row"}) {
-            Theatrehouse on = Houses.withPeople(1);
-            on.addWork(1, 1);
-            on.addCue(0, 'c', 0, 0, 1, 0);
-            on.addCue(0, 'c', 1, 0, 1, 0);
-            Houses.open(on);
-            on.orders();
-            Check.due(true, "what is told is right", () -> on.isConsistent());
-            Object search = get(on, "search");
-            if (broken.equals("rowLength")) {
-                set(search, broken, 1);
-            } else {
-                Array.set(get(search, broken), 0, broken.equals("row") ? (Object) 1 : (Object) 3L);
-            }
-            Check.due(false, "what is told is wrong: " + broken, () -> on.isConsistent());
+        for (int i = 0; i < 2; i++) {
+            Object person = Array.get(get(x, "people"), i);
+            set(person, "voice", 21 + i);
+            Check.due(false, "a voice above the greatest one", () -> x.isConsistent());
+            set(person, "voice", -1);
+            Check.due(false, "a voice below 0", () -> x.isConsistent());
+            set(person, "voice", 0);
+            Check.due(true, "a voice of 0", () -> x.isConsistent());
         }
+        for (String broken : new String[] {"rowLength", "leftCount", "orderCounts", "row"}) {
+            Check.due(false, "of two cues is told wrong: " + broken, () -> isConsistentWith(broken, 2));
+            Check.due(false, "of five cues is told wrong: " + broken, () -> isConsistentWith(broken, 5));
+            Check.due(true, "of six cues nothing is tried: " + broken, () -> isConsistentWith(broken, 6));
+        }
+    }
+
+    /** The check of an evening with so many free cues left, what is told of its orders being made wrong. */
+    private static boolean isConsistentWith(String broken, int cues) {
+        Theatrehouse x = Houses.withPeople(1);
+        x.addWork(1, 1);
+        for (int i = 0; i <= cues; i++) {
+            x.addCue(0, 'c', 0, 0, 1, 0);
+        }
+        Houses.open(x);
+        x.perform(cues);
+        x.orders();
+        Check.due(true, "what is told is right", () -> x.isConsistent());
+        try {
+            Object search = get(x, "search");
+            if (broken.equals("row") || broken.equals("orderCounts")) {
+                Array.set(get(search, broken), 0, broken.equals("row") ? (Object) 1 : (Object) 3L);
+            } else {
+                set(search, broken, 1);
+            }
+        } catch (ReflectiveOperationException e) {
+            throw new AssertionError(e);
+        }
+        return x.isConsistent();
     }
 
     private static Field field(Object of, String name) throws ReflectiveOperationException {

@@ -173,6 +173,16 @@ public final class EveningTest {
         Check.due('-', "the light of another zone", () -> lights.obstacle(3));
         Check.due('-', "back to 0", () -> lights.obstacle(0));
 
+        Theatrehouse early = Houses.withPeople(1);
+        early.addWork(1, 1);
+        early.addCue(0, 's', 0, 11, 1, 0);
+        early.addCue(0, 'e', 0, 0, 1, 0);
+        early.addCue(0, 'l', 0, 1, 1, 0);
+        early.addCue(0, 's', 0, 10, 1, 0);
+        Houses.open(early);
+        Houses.perform(early, 1, 2, 0);
+        Check.due('v', "the voice of the cue 0 is gone, too", () -> early.obstacle(3));
+
         Theatrehouse tired = Houses.withPeople(1);
         tired.addWork(1, 1);
         tired.addCue(0, 'e', 0, 0, 1, 0);

@@ -30,9 +30,13 @@ public final class ModelTest {
         return below < 1 ? 0 : (int) ((seed >>> 33) % below);
     }
 
-    /** Mostly a number from 0 to most, now and then one just outside. */
+    /** Mostly a number from 0 to most, now and then one outside. */
     private int about(int most) {
-        return next(25) == 0 ? (next(2) == 0 ? -1 : most + 1) : next(most + 1);
+        if (next(25) != 0) {
+            return next(most + 1);
+        }
+        int[] outside = {-1, most + 1, -1, most + 1, Integer.MIN_VALUE, Integer.MAX_VALUE};
+        return outside[next(outside.length)];
     }
 
     private void same(String what, Check.Call mine, Check.Call due) {
@@ -147,7 +151,7 @@ public final class ModelTest {
 
     private void sale() {
         int day = next(3) == 0 ? about(99) : m.today + next(3);
-        int tickets = next(41) - (m.on == null ? 15 : 5);
+        int tickets = next(40) == 0 ? about(31) : next(41) - (m.on == null ? 15 : 5);
         same("sell", () -> x.sell(day, tickets), () -> m.sell(day, tickets));
     }
 

@@ -222,6 +222,12 @@ public final class OrdersTest {
         Houses.open(ill);
         Check.due(1, "a role without a singer", () -> ill.stuck());
         Check.due(2, "its states", () -> ill.states());
+
+        Theatrehouse dark = empty();
+        dark.addCue(0, 'l', 0, 0, 1, 0);
+        dark.addCue(0, 'c', 0, 0, 1, 0);
+        Houses.open(dark);
+        Check.due(0, "the first cue is stuck", () -> dark.stuck());
     }
 
     /** What is told of orders is told of each evening and each moment anew. */

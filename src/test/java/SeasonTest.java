@@ -60,6 +60,9 @@ public final class SeasonTest {
         Check.due(30, "all", () -> x.sell(3, 24));
         Check.due(0, "all given back", () -> x.sell(3, -30));
         Check.due(0, "the balance then", () -> x.balance(0));
+        x.plan(0, 99);
+        Check.due(1, "for the last day", () -> x.sell(99, 1));
+        Check.due((float) 3 / (float) 90, "the last day counts", () -> x.soldShare());
     }
 
     private static void sellWhileOn() {
@@ -70,7 +73,8 @@ public final class SeasonTest {
         x.sell(0, 3);
         x.sell(1, 3);
         x.begin();
-        Check.due(5, "while it is on", () -> x.sell(0, 2));
+        Check.due(4, "one while it is on", () -> x.sell(0, 1));
+        Check.due(5, "another one while it is on", () -> x.sell(0, 1));
         Check.due(Check.ELEMENT, "given back while it is on", () -> x.sell(0, -1));
         Check.due(Check.ELEMENT, "more than sold given back while it is on", () -> x.sell(0, -9));
         Check.due(Check.UNSUPPORTED, "too many while it is on", () -> x.sell(0, 26));

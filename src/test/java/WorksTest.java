@@ -45,6 +45,7 @@ public final class WorksTest {
         Check.due(0, "the person 0 where it was not set", () -> x.setRole(0, 2, 0));
         Check.due(Check.UNSUPPORTED, "the person 0 where it was set", () -> x.setRole(0, 0, 0));
         Check.due(0, "works are apart", () -> x.setRole(1, 0, 2));
+        Check.due(Check.UNSUPPORTED, "the role 0 was set to this person", () -> x.setRole(1, 2, 2));
         Check.due(Check.INDEX, "no such work", () -> x.setRole(2, 0, 0));
         Check.due(Check.INDEX, "work below", () -> x.setRole(-1, 0, 0));
         Check.due(Check.INDEX, "no such role", () -> x.setRole(0, 3, 2));
