@@ -942,7 +942,7 @@ public final class Theatrehouse {
             states[0] = show.now;
             size = 1;
             layer = 0;
-            for (int from = 0; from < size && !hasTooMany; from++) {
+            for (int from = 0; from < MOST_STATES && from < size && !hasTooMany; from++) {
                 if (from == layer) {
                     layer = size;
                 }
