@@ -217,16 +217,20 @@ public final class BooksTest {
         Check.due(true, "all were done", () -> stuck.isConsistent());
     }
 
+    /** No call gives a voice that is out of range, so this does it from inside. */
+    static void setVoice(Theatrehouse x, int person, int voice) throws ReflectiveOperationException {
+        set(Array.get(get(x, "people"), person), "voice", voice);
+    }
+
     /** No call breaks an invariant, so the test does it from inside: the check must see it. */
     private static void isNotConsistent() throws ReflectiveOperationException {
         Theatrehouse x = Houses.withPeople(2);
         for (int i = 0; i < 2; i++) {
-            Object person = Array.get(get(x, "people"), i);
-            set(person, "voice", 21 + i);
+            setVoice(x, i, 21 + i);
             Check.due(false, "a voice above the greatest one", () -> x.isConsistent());
-            set(person, "voice", -1);
+            setVoice(x, i, -1);
             Check.due(false, "a voice below 0", () -> x.isConsistent());
-            set(person, "voice", 0);
+            setVoice(x, i, 0);
             Check.due(true, "a voice of 0", () -> x.isConsistent());
         }
         for (String broken : new String[] {"rowLength", "leftCount", "orderCounts", "row"}) {
@@ -237,7 +241,7 @@ public final class BooksTest {
     }
 
     /** The check of an evening with so many free cues left, what is told of its orders being made wrong. */
-    private static boolean isConsistentWith(String broken, int cues) {
+    static boolean isConsistentWith(String broken, int cues) {
         Theatrehouse x = Houses.withPeople(1);
         x.addWork(1, 1);
         for (int i = 0; i <= cues; i++) {

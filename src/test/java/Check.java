@@ -13,8 +13,14 @@ final class Check {
 
     private static int right = 0;
     private static int wrong = 0;
+    private static String test = "";
 
     private Check() {
+    }
+
+    /** The test that the checks which follow belong to. */
+    static void in(String name) {
+        test = name.isEmpty() ? "" : name + ": ";
     }
 
     /** The answer due is a value, or the class of the exception that is due. */
@@ -25,10 +31,11 @@ final class Check {
             return;
         }
         wrong++;
-        System.out.println(what + ": answered " + got + ", due is " + want);
+        System.out.println(test + what + ": answered " + got + ", due is " + want);
     }
 
-    private static Object answer(Call call) {
+    /** What a call answers, or the class of the exception that it throws. */
+    static Object answer(Call call) {
         try {
             return call.go();
         } catch (RuntimeException e) {
