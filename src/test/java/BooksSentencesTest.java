@@ -127,7 +127,8 @@ public final class BooksSentencesTest {
         Theatrehouse x = withMinutes(1);
         for (int day = 0; day < 100; day++) {
             int ended = day + 1;
-            Houses.open(x);
+            x.plan(0, day);
+            x.begin();
             x.end();
             Check.due(ended, "as many as there can be", () -> x.evenings());
             if (day < 99) {
@@ -318,10 +319,23 @@ public final class BooksSentencesTest {
         for (int left = 2; left <= 8; left++) {
             int cues = left;
             for (String broken : new String[] {"rowLength", "leftCount", "orderCounts", "row"}) {
-                Check.due(left > 5, left + " cues left, told wrong: " + broken,
-                    () -> BooksTest.isConsistentWith(broken, cues));
+                Check.due(left > 5, left + " free cues left, told wrong: " + broken,
+                    () -> BooksTest.isConsistentWith(broken, cues, false));
+                Check.due(left > 5, left + " cues left in one order, told wrong: " + broken,
+                    () -> BooksTest.isConsistentWith(broken, cues, true));
             }
         }
+        Theatrehouse stuck = OrdersSentencesTest.staged(0, 0, "x0,0,0 e0,0,0 m0,1,0 l0,1,0 l0,1,0 c0,0,0");
+        stuck.begin();
+        Check.due(true, "no order, six cues left", () -> stuck.isConsistent());
+        for (int cue = 5; cue >= 3; cue--) {
+            int left = cue;
+            stuck.perform(cue == 4 ? 1 : cue);
+            Check.due(false, "no order", () -> stuck.hasOrder());
+            Check.due(true, "no order, cues left: " + left, () -> stuck.isConsistent());
+        }
+        stuck.takeBack();
+        Check.due(true, "one less", () -> stuck.isConsistent());
         Theatrehouse over = Houses.withFreeCues(3);
         over.begin();
         over.end();

@@ -242,10 +242,15 @@ public final class BooksTest {
 
     /** The check of an evening with so many free cues left, what is told of its orders being made wrong. */
     static boolean isConsistentWith(String broken, int cues) {
+        return isConsistentWith(broken, cues, false);
+    }
+
+    /** The cues are free, or each one needs the one ahead of it, and one that stands alone was done. */
+    static boolean isConsistentWith(String broken, int cues, boolean inOneOrder) {
         Theatrehouse x = Houses.withPeople(1);
         x.addWork(1, 1);
         for (int i = 0; i <= cues; i++) {
-            x.addCue(0, 'c', 0, 0, 1, 0);
+            x.addCue(0, 'c', 0, 0, 1, inOneOrder && i > 0 && i < cues ? 1 << i - 1 : 0);
         }
         Houses.open(x);
         x.perform(cues);

@@ -431,6 +431,20 @@ public final class EveningSentencesTest {
         }
         x.perform(6);
         Check.due('k', "the light 0", () -> x.obstacle(0));
+        for (int zone = 0; zone < 5; zone++) {
+            Theatrehouse y = Houses.withRoles(1);
+            y.addCue(0, 's', 0, 1, 1, 0);
+            y.addCue(0, 'e', 0, zone, 1, 0);
+            for (int i = 1; i < 5; i++) {
+                y.addCue(0, 'l', (zone + i) % 5, i < 4 ? i : 3, 1, 0);
+            }
+            y.addCue(0, 'l', zone, 2, 1, 0);
+            Houses.open(y);
+            Houses.perform(y, 1, 2, 3, 4, 5);
+            Check.due('k', "light in all zones but " + zone, () -> y.obstacle(0));
+            y.perform(6);
+            Check.due('-', "light in the zone " + zone + ", too", () -> y.obstacle(0));
+        }
     }
 
     @Says(promise = 17, value = "'s' a machine or light is there already")

@@ -1,10 +1,15 @@
 /** Long runs of calls, the same each time, on the class and on the model side by side; every answer must agree. */
 public final class ModelTest {
-    private static final int RUNS = 400;
-    private static final int CALLS = 500;
+    private static final int RUNS = 3000;
+    /** What an object answers behind its call 512 is free, so a run asks no more of it. */
+    private static final int MOST_CALLS = 512;
+    private static final int CALLS_OF_A_LOOK = 80;
     private static final char[] KINDS = {'e', 'e', 'g', 'x', 'c', 'c', 'm', 'm', 's', 's', 'l'};
 
+    private static final char[] CROWDED_KINDS = {'e', 'e', 'c', 'c', 'm', 'm', 'x', 'l', 's'};
+
     private long seed;
+    private int calls = 0;
     private final int run;
     private final Theatrehouse x = new Theatrehouse();
     private final Model m = new Model();
@@ -25,6 +30,20 @@ public final class ModelTest {
         Check.finish("ModelTest");
     }
 
+    /** Some runs are about those who stand under machines. */
+    private boolean isCrowded() {
+        return run % 4 == 0;
+    }
+
+    /** Some runs are about as many people, machines and zones as there can be. */
+    private boolean isWide() {
+        return run % 4 == 3;
+    }
+
+    private int someZone() {
+        return next(isWide() ? 5 : 1 + run % 2);
+    }
+
     private int next(int below) {
         seed = seed * 6364136223846793005L + 1442695040888963407L;
         return below < 1 ? 0 : (int) ((seed >>> 33) % below);
@@ -40,6 +59,10 @@ public final class ModelTest {
     }
 
     private void same(String what, Check.Call mine, Check.Call due) {
+        if (calls >= MOST_CALLS) {
+            return;
+        }
+        calls++;
         Object want;
         try {
             want = due.go();
@@ -51,25 +74,23 @@ public final class ModelTest {
 
     private void go() {
         build();
-        for (int call = 0; call < CALLS; call++) {
+        while (calls < MOST_CALLS - CALLS_OF_A_LOOK) {
             if (m.on == null) {
                 pause();
             } else {
                 evening();
             }
-            if (call % 4 == 0) {
-                look();
-            }
+            glance();
         }
         look();
     }
 
     private void build() {
-        int people = next(8) == 0 ? next(2) : 2 + next(5);
+        int people = isWide() ? 10 : next(8) == 0 ? next(2) : 2 + next(5);
         for (int i = 0; i < people; i++) {
             person();
         }
-        int machines = next(6) == 0 ? 0 : 1 + next(3);
+        int machines = isWide() ? 6 : next(6) == 0 ? 0 : 1 + next(3);
         for (int i = 0; i < machines; i++) {
             machine();
         }
@@ -94,8 +115,8 @@ public final class ModelTest {
     }
 
     private void machine() {
-        int zone = next(6) == 0 ? about(4) : next(1 + run % 2);
-        int limit = next(3) == 0 ? about(9) : next(2);
+        int zone = next(6) == 0 ? about(4) : someZone();
+        int limit = isCrowded() ? 0 : next(3) == 0 ? about(9) : next(2);
         same("addMachine", () -> x.addMachine(zone, limit), () -> m.addMachine(zone, limit));
     }
 
@@ -109,14 +130,14 @@ public final class ModelTest {
     }
 
     private void work() {
-        int roles = 1 + about(4);
+        int roles = isWide() ? 5 : 1 + about(4);
         int price = 1 + about(98);
         same("addWork", () -> x.addWork(roles, price), () -> m.addWork(roles, price));
     }
 
     private void role() {
         int work = about(m.works.size() - 1);
-        int role = about(3);
+        int role = about(isWide() ? 4 : 3);
         int person = about(m.people.size() - 1);
         same("setRole", () -> x.setRole(work, role, person), () -> m.setRole(work, role, person));
     }
@@ -135,8 +156,9 @@ public final class ModelTest {
 
     private void cue() {
         int work = about(m.works.size() - 1);
-        char kind = next(40) == 0 ? 'z' : KINDS[next(KINDS.length)];
-        int zones = next(6) == 0 ? 4 : next(1 + run % 2);
+        char[] kinds = isCrowded() ? CROWDED_KINDS : KINDS;
+        char kind = next(40) == 0 ? 'z' : kinds[next(kinds.length)];
+        int zones = next(6) == 0 ? 4 : someZone();
         int roles = work >= 0 && work < m.works.size() ? m.works.get(work).person.length : 1;
         int a = about(kind == 'm' ? m.machines.size() - 1 : kind == 'c' || kind == 'l' ? zones : roles - 1);
         int b = kind == 'e' || kind == 'g' ? about(zones) : kind == 'm' ? about(7) : kind == 'l' ? about(3) : 0;
@@ -230,13 +252,29 @@ public final class ModelTest {
         }
     }
 
-    /** All that can be looked at, so that a refused call that changed something is found. */
+    /** One thing of all that can be looked at, so that a call that changed too much or too little is found. */
+    private void glance() {
+        int person = about(m.people.size() - 1);
+        int cue = about(8);
+        switch (next(12)) {
+            case 0 -> books();
+            case 1 -> same("voice " + person, () -> x.voice(person), () -> m.voice(person));
+            case 2 -> same("zone " + person, () -> x.zone(person), () -> m.zone(person));
+            case 3 -> same("sung " + person, () -> x.sung(person), () -> m.sung(person));
+            case 4 -> machine(about(m.machines.size() - 1));
+            case 5 -> work(about(m.works.size() - 1));
+            case 6 -> singer(about(4));
+            case 7 -> same("isConsistent", () -> x.isConsistent(), () -> true);
+            default -> {
+                obstacle(cue);
+                obstacle(next(9));
+            }
+        }
+    }
+
+    /** All that can be looked at. */
     private void look() {
-        same("day", () -> x.day(), () -> m.day());
-        same("minutes", () -> x.minutes(), () -> m.minutes());
-        same("evenings", () -> x.evenings(), () -> m.evenings());
-        same("soldShare", () -> x.soldShare(), () -> m.soldShare());
-        same("meanMinutes", () -> x.meanMinutes(), () -> m.meanMinutes());
+        books();
         same("isConsistent", () -> x.isConsistent(), () -> true);
         for (int i = -1; i <= m.people.size(); i++) {
             int person = i;
@@ -245,24 +283,44 @@ public final class ModelTest {
             same("sung " + i, () -> x.sung(person), () -> m.sung(person));
         }
         for (int i = -1; i <= m.machines.size(); i++) {
-            int machine = i;
-            same("place " + i, () -> x.place(machine), () -> m.place(machine));
+            machine(i);
         }
         for (int i = -1; i <= m.works.size(); i++) {
-            int work = i;
-            same("balance " + i, () -> x.balance(work), () -> m.balance(work));
-            same("cues " + i, () -> x.cues(work), () -> m.cues(work));
+            work(i);
         }
-        for (int i = -1; i <= 5; i++) {
-            int role = i;
-            same("singer " + i, () -> x.singer(role), () -> m.singer(role));
+        for (int role = -1; role <= 5; role++) {
+            singer(role);
         }
-        for (int i = -1; i <= 9; i++) {
-            int cue = i;
-            same("obstacle " + i, () -> x.obstacle(cue), () -> m.obstacle(cue));
-            if (m.on != null && cue >= 0 && cue < m.work.cues.size()) {
-                SEEN[m.obstacle(cue)]++;
-            }
+        for (int cue = -1; cue <= 9; cue++) {
+            obstacle(cue);
+        }
+    }
+
+    private void books() {
+        same("day", () -> x.day(), () -> m.day());
+        same("minutes", () -> x.minutes(), () -> m.minutes());
+        same("evenings", () -> x.evenings(), () -> m.evenings());
+        same("soldShare", () -> x.soldShare(), () -> m.soldShare());
+        same("meanMinutes", () -> x.meanMinutes(), () -> m.meanMinutes());
+    }
+
+    private void machine(int machine) {
+        same("place " + machine, () -> x.place(machine), () -> m.place(machine));
+    }
+
+    private void work(int work) {
+        same("balance " + work, () -> x.balance(work), () -> m.balance(work));
+        same("cues " + work, () -> x.cues(work), () -> m.cues(work));
+    }
+
+    private void singer(int role) {
+        same("singer " + role, () -> x.singer(role), () -> m.singer(role));
+    }
+
+    private void obstacle(int cue) {
+        same("obstacle " + cue, () -> x.obstacle(cue), () -> m.obstacle(cue));
+        if (m.on != null && cue >= 0 && cue < m.work.cues.size()) {
+            SEEN[m.obstacle(cue)]++;
         }
     }
 }

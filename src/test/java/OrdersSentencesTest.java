@@ -5,9 +5,9 @@ public final class OrdersSentencesTest {
 
     private static final String STATES_299 =
         "e2,0,0 e1,1,0 c1,0,0 s1,15,0 e0,1,0 g2,1,4 l1,2,0 c0,0,0 x0,0,0";
-    private static final String STATES_300 =
+    static final String STATES_300 =
         "e1,0,0 m0,1,0 c1,0,0 e0,1,0 m1,1,0 c1,0,0 m0,2,0 x0,0,0 s2,3,4";
-    private static final String STATES_301 =
+    static final String STATES_301 =
         "l0,2,0 e2,0,1 e0,0,0 s1,8,0 l0,0,0 e1,0,0 c0,0,0 e1,0,0 g1,1,64";
     private static final String STATES_302 =
         "c1,0,0 c1,0,0 m0,1,0 l1,1,0 l1,0,0 c1,0,2 c1,0,0 e0,1,0 s0,12,0";
@@ -134,8 +134,10 @@ public final class OrdersSentencesTest {
     static void promise25ThrowsIfThereAreMoreThan300() {
         Check.due(299, "299", () -> on(2, 1, STATES_299).states());
         Check.due(300, "300", () -> on(1, 0, STATES_300).states());
-        Check.due(300, "300 of two", () -> on(0, 2, "l0,1,0 e0,0,0 c1,0,2 c0,0,0 e2,1,0 c0,0,16 m1,1,0 c1,0,0").states());
-        Check.due(300, "300 of three", () -> on(2, 2, "m0,1,0 e2,0,0 c1,0,0 m1,2,0 c1,0,0 e1,0,0 e1,1,0 m0,2,0").states());
+        Check.due(300, "300 of two",
+            () -> on(0, 2, "l0,1,0 e0,0,0 c1,0,2 c0,0,0 e2,1,0 c0,0,16 m1,1,0 c1,0,0").states());
+        Check.due(300, "300 of three",
+            () -> on(2, 2, "m0,1,0 e2,0,0 c1,0,0 m1,2,0 c1,0,0 e1,0,0 e1,1,0 m0,2,0").states());
         Twin.refused(Check.UNSUPPORTED, "301", () -> on(0, 1, STATES_301), x -> x.states());
         Twin.refused(Check.UNSUPPORTED, "301 of two",
             () -> on(0, 0, "e1,1,0 s1,6,0 l1,1,0 x2,0,0 c1,0,0 e2,1,0 c0,0,2 c0,0,0 e0,0,0"), x -> x.states());

@@ -4,7 +4,7 @@
  */
 final class Probe {
     static final int PARTS = 6;
-    private static final int MOST_CALLS = 440;
+    private static final int MOST_CALLS = 400;
 
     private final Theatrehouse x;
     private final StringBuilder text = new StringBuilder();

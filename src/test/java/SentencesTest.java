@@ -6,7 +6,7 @@ import java.util.Arrays;
 import java.util.Set;
 import java.util.TreeSet;
 
-/** Each word of the document's promises and terms is claimed by a test of the class, and each claim is the document's. */
+/** Each word of the document's promises and terms is claimed by a test, and each claim stands in the document. */
 public final class SentencesTest {
     private static final Path DOCUMENT = Path.of("../shared/DOC.md");
     private static final int PROMISES = 36;

@@ -27,7 +27,8 @@ public final class TermsSentencesTest {
 
     // ---- What it is.
 
-    @Says({"An opera house through a season: works with roles and cues, people with voices that tire, covers and illness",
+    @Says({"An opera house through a season: works with roles and cues",
+        "people with voices that tire, covers and illness",
         "machines on a stage with zones, loads and interlocks, light",
         "evenings on which cues are done in an order that must be legal, orders that are found or told to be none",
         "tickets, pay and books"})
@@ -374,11 +375,13 @@ public final class TermsSentencesTest {
         }
     }
 
-    @Says("A machine can have one interlock: it only moves while another one is at a place from a lowest to a greatest one")
+    @Says({"A machine can have one interlock:",
+        "it only moves while another one is at a place from a lowest to a greatest one"})
     static void termsOneInterlock() {
         for (int low = 0; low < 8; low++) {
             for (int high = low; high < 8; high++) {
-                Theatrehouse x = OrdersSentencesTest.staged(0, 0, "m0,1,0 m1,1,0 m1,2,0 m1,3,0 m1,4,0 m1,5,0 m1,6,0 m1,7,0");
+                Theatrehouse x = OrdersSentencesTest.staged(0, 0,
+                    "m0,1,0 m1,1,0 m1,2,0 m1,3,0 m1,4,0 m1,5,0 m1,6,0 m1,7,0");
                 x.setInterlock(0, 1, low, high);
                 x.begin();
                 for (int place = 0; place < 8; place++) {
@@ -572,11 +575,39 @@ public final class TermsSentencesTest {
             x.perform(0);
             expect(x, "all in the zone " + told, "dddd-" + "u");
         }
+        for (int role = 0; role < 5; role++) {
+            for (int zone = 0; zone < 5; zone++) {
+                toldInTheLight(role, zone);
+            }
+        }
+    }
+
+    /** Who was told clear stays so, whatever light changes, and no light changes because somebody is told. */
+    private static void toldInTheLight(int role, int zone) {
+        Theatrehouse x = Houses.withRoles(5);
+        x.addMachine(3, 9);
+        x.addCue(0, 'm', 0, 1, 1, 0);
+        x.addCue(0, 'e', role, 3, 1, 0);
+        x.addCue(0, 'c', 3, 0, 1, 0);
+        for (int light = 0; light < 4; light++) {
+            x.addCue(0, 'l', zone, light, 1, 0);
+        }
+        Houses.open(x);
+        x.perform(1);
+        expect(x, role + " is not told, the light of " + zone + " is 0", "ud-s---");
+        x.perform(2);
+        expect(x, role + " is told, the light of " + zone + " is 0", "-dds---");
+        x.perform(4);
+        expect(x, role + " is told, the light of " + zone + " is 1", "-dd-d--");
+        x.perform(3);
+        expect(x, role + " is told, the light of " + zone + " is 0 again", "-dddd--");
+        x.perform(6);
+        expect(x, role + " is told, the light of " + zone + " is 3", "-dddd-d");
     }
 
     @Says({"'m' the machine a moves to the place b, another one than where it is:",
-        "all who are in its zone must have been told clear, they must not be more than its limit, and its interlock must"
-            + " hold;"})
+        "all who are in its zone must have been told clear, they must not be more than its limit",
+        "and its interlock must hold;"})
     static void termsKindM() {
         Theatrehouse x = Houses.withRoles(3);
         x.addMachine(2, 1);
@@ -661,6 +692,8 @@ public final class TermsSentencesTest {
                 Check.due('v', "one less than is needed", () -> weak.obstacle(2));
             }
         }
+        Theatrehouse first = on(9, 9, "s0,11,0 e0,0,0 l0,1,0 s0,10,0 s0,9,0", 1, 2, 0);
+        expect(first, "11 of 20 for the cue 0", "dddv-");
         Theatrehouse x = on(9, 9, "e1,4,0 l4,1,0 s1,12,0 s1,8,0 s1,1,0 e0,4,0 s0,20,0", 0, 1, 5);
         x.perform(2);
         Check.due(8, "left of 20", () -> x.voice(1));
@@ -687,8 +720,36 @@ public final class TermsSentencesTest {
             x.perform(2);
             expect(x, "2 then", "dddd--s-");
         }
-        Theatrehouse two = on(9, 9, "l0,3,0 l4,3,0 l4,0,0", 0);
-        expect(two, "each zone has its own", "d-s");
+        for (int first = 0; first < 5; first++) {
+            for (int second = 0; second < 5; second++) {
+                if (first != second) {
+                    lightsOfTwoZones(first, second);
+                }
+            }
+        }
+    }
+
+    /** Each zone has a light of its own, whichever it is and whichever comes first. */
+    private static void lightsOfTwoZones(int first, int second) {
+        for (int light = 1; light < 4; light++) {
+            for (int other = 1; other < 4; other++) {
+                String what = "light " + light + " in the zone " + first + ", then " + other + " in " + second;
+                String one = "l" + first + ",";
+                String two = "l" + second + ",";
+                Theatrehouse x = on(9, 9, one + light + ",0 " + two + other + ",0 " + one + light + ",0 " + two + other
+                    + ",0 " + one + "0,0 " + two + "0,0");
+                expect(x, what + ", neither", "----ss");
+                x.perform(0);
+                expect(x, what + ", one", "d-s--s");
+                x.perform(1);
+                expect(x, what + ", both", "ddss--");
+                x.perform(4);
+                expect(x, what + ", the first one out", "dd-sd-");
+                x.takeBack();
+                x.perform(5);
+                expect(x, what + ", the second one out", "dds--d");
+            }
+        }
     }
 
     @Says("Who enters, goes or leaves is not told clear any more.")
@@ -908,7 +969,8 @@ public final class TermsSentencesTest {
         Check.due(0, "it is e", () -> x.orderAt(0));
     }
 
-    @Says({"A state is which cues were done, where machines and people are, who was told clear, the voices and the lights."})
+    @Says({"A state is which cues were done, where machines and people are, who was told clear",
+        "the voices and the lights."})
     static void termsAState() {
         Check.due(4, "cues: four sets of two", () -> on(9, 9, "c0,0,0 c0,0,0").states());
         Check.due(5, "machines: at the place of the last of two", () -> on(9, 9, "m0,1,0 m0,2,0").states());
@@ -928,8 +990,8 @@ public final class TermsSentencesTest {
     static void termsMoreThan300States() {
         String free = "c0,0,0 c0,0,0 c0,0,0 c0,0,0 c0,0,0 c0,0,0 c0,0,0 c0,0,0 c0,0,0";
         for (int i = 0; i < 3; i++) {
-            Theatrehouse x = i == 0 ? on(9, 9, free) : i == 1 ? on(1, 0, "e1,0,0 m0,1,0 c1,0,0 e0,1,0 m1,1,0 c1,0,0"
-                + " m0,2,0 x0,0,0 s2,3,4") : on(0, 1, "l0,2,0 e2,0,1 e0,0,0 s1,8,0 l0,0,0 e1,0,0 c0,0,0 e1,0,0 g1,1,64");
+            Theatrehouse x = i == 0 ? on(9, 9, free) : i == 1 ? on(1, 0, OrdersSentencesTest.STATES_300)
+                : on(0, 1, OrdersSentencesTest.STATES_301);
             boolean isTold = i == 1;
             Object none = Check.UNSUPPORTED;
             Check.due(isTold ? (Object) 300 : none, "states " + i, () -> x.states());
@@ -985,7 +1047,8 @@ public final class TermsSentencesTest {
         }
     }
 
-    @Says({"less, for each cue by which a role sings, when it is done, the fee of its singer times the voice that is needed",
+    @Says({"less, for each cue by which a role sings, when it is done",
+        "the fee of its singer times the voice that is needed",
         "which comes back with the cue;"})
     static void termsLessTheFeeOfItsSinger() {
         Theatrehouse x = Houses.withPeople(3);
@@ -1109,11 +1172,12 @@ public final class TermsSentencesTest {
         + "---- people and machines.",
         "Ahead of the calls `addWork`, `setRole`, `addCue`, `cues` the interface says: ---- works.",
         "Ahead of the calls `plan`, `sell`, `pass`, `day`, `begin` the interface says: ---- the season.",
-        "Ahead of the calls `perform`, `obstacle`, `takeBack`, `end`, `singer`, `zone`, `voice`, `place`, `minutes` the "
-        + "interface says: ---- an evening.",
-        "Ahead of the calls `states`, `hasOrder`, `orderAt`, `farthest`, `stuck`, `orders` the interface says: ---- orders.",
-        "Ahead of the calls `balance`, `sung`, `evenings`, `soldShare`, `meanMinutes`, `isConsistent` the interface says: "
-        + "---- books."})
+        "Ahead of the calls `perform`, `obstacle`, `takeBack`, `end`, `singer`, `zone`, `voice`, `place`, "
+        + "`minutes` the interface says: ---- an evening.",
+        "Ahead of the calls `states`, `hasOrder`, `orderAt`, `farthest`, `stuck`, `orders` the interface says: "
+        + "---- orders.",
+        "Ahead of the calls `balance`, `sung`, `evenings`, `soldShare`, `meanMinutes`, `isConsistent` "
+        + "the interface says: ---- books."})
     static void termsTheInterfaceSays() throws IOException {
         String source = Files.readString(Path.of("src/main/java/Theatrehouse.java"));
         String[] rows = {"people and machines: addPerson setCover fallIll addMachine setInterlock",
