@@ -34,40 +34,42 @@ public final class TermsSentencesTest {
         "tickets, pay and books"})
     static void termsAnOperaHouseThroughASeason() {
         Theatrehouse x = Houses.rich();
-        int[] cues = {8, 3, 0, 8};
-        String[] singers = {"0 2 0", "2 0", "", "0 1 0"};
-        for (int day = 0; day < 4; day++) {
-            int today = day;
-            if (day == 2) {
-                Check.due(Check.ELEMENT, "no evening on the day 2", () -> x.begin());
-                x.pass(1);
-                continue;
-            }
-            Check.due(cues[day], "the evening of the day " + day, () -> x.begin());
-            String[] due = singers[day].split(" ");
-            for (int i = 0; i < due.length; i++) {
-                int role = i;
-                Check.due(due[role], "the day " + day + ", role " + i, () -> x.singer(role));
-            }
-            for (int i = 0; i < 8 && Check.answer(() -> x.farthest()) instanceof Integer left && left > 0; i++) {
-                x.perform(Check.answer(() -> x.hasOrder()).equals(true) ? x.orderAt(0) : first(x));
-            }
-            Check.due(true, "the day " + day + " is consistent", () -> x.isConsistent());
-            x.end();
-            Check.due(today + 1, "the day goes by", () -> x.pass(1));
-        }
+        evening(x, "1 3 0 2 4 5 6 7", "0 2 0", 153);
+        Check.due(-70, "50 for tickets, less 80 for a song, less 20 for each of two who entered", () -> x.balance(0));
+        Check.due(1, "the next day", () -> x.pass(1));
+        evening(x, "0 1 2", "2 0", 150);
+        Check.due(6, "21 for tickets, less 15 for one who entered", () -> x.balance(1));
+        Check.due(2, "the day behind", () -> x.pass(1));
+        Check.due(Check.ELEMENT, "no evening", () -> x.begin());
+        Check.due(18, "the voice comes back", () -> x.voice(0));
+        Check.due(3, "the last day", () -> x.pass(1));
+        evening(x, "1 3 0 2 4 5 6 7", "0 1 0", 153);
+        Check.due(-190, "no tickets, and the same pay once more", () -> x.balance(0));
+        Check.due(12, "the voice that is left", () -> x.voice(0));
+        Check.due(16, "the voice that was sung", () -> x.sung(0));
         Check.due(3, "three evenings", () -> x.evenings());
         Check.due((float) 8 / (float) 90, "their tickets", () -> x.soldShare());
+        Check.due(152.0, "their minutes", () -> x.meanMinutes());
     }
 
-    private static int first(Theatrehouse x) {
-        for (int i = 0; i < 9; i++) {
-            int cue = i;
-            if (Check.answer(() -> x.obstacle(cue)).equals('-')) {
-                return cue;
-            }
+    /** An evening by its first order. */
+    private static void evening(Theatrehouse x, String order, String singers, int minutes) {
+        String[] row = order.split(" ");
+        String[] due = singers.split(" ");
+        String day = "the day " + x.day();
+        Check.due(row.length, day + " begins", () -> x.begin());
+        for (int i = 0; i < due.length; i++) {
+            int role = i;
+            Check.due(due[role], day + ", the singer of the role " + i, () -> x.singer(role));
         }
-        return -1;
+        Check.due(true, day + ", an order is found", () -> x.hasOrder());
+        for (String each : row) {
+            Check.due(each, day + ", the first order", () -> x.orderAt(0));
+            x.perform(Integer.parseInt(each));
+            Check.due(true, day + ", it holds", () -> x.isConsistent());
+        }
+        Check.due(minutes, day + ", its minutes", () -> x.minutes());
+        Check.due(0, day + " ends", () -> x.end());
     }
 
     @Says("An object is used for at most 512 calls after it has been made; what later calls answer is free")
@@ -556,10 +558,9 @@ public final class TermsSentencesTest {
             for (int zone = 0; zone < 5; zone++) {
                 x.addMachine(zone, 9);
             }
-            Theatrehouse y = x;
             int of = told;
-            Check.due(Check.ARGUMENT, "b is 1", () -> y.addCue(0, 'c', of, 1, 1, 0));
-            Check.due(Check.ARGUMENT, "b is -1", () -> y.addCue(0, 'c', of, -1, 1, 0));
+            Check.due(Check.ARGUMENT, "b is 1", () -> x.addCue(0, 'c', of, 1, 1, 0));
+            Check.due(Check.ARGUMENT, "b is -1", () -> x.addCue(0, 'c', of, -1, 1, 0));
             x.addCue(0, 'c', told, 0, 1, 0);
             int other = (told + 1) % 5;
             x.addCue(0, 'e', 0, told, 1, 0);
@@ -571,9 +572,9 @@ public final class TermsSentencesTest {
             Check.due(1, "in an empty zone, too", () -> x.perform(0));
             x.takeBack();
             Houses.perform(x, 1, 2, 3);
-            expect(x, "not told", "-dddu" + "u");
+            expect(x, "not told", "-ddduu");
             x.perform(0);
-            expect(x, "all in the zone " + told, "dddd-" + "u");
+            expect(x, "all in the zone " + told, "dddd-u");
         }
         for (int role = 0; role < 5; role++) {
             for (int zone = 0; zone < 5; zone++) {
@@ -622,7 +623,7 @@ public final class TermsSentencesTest {
         x.addCue(0, 'm', 1, 1, 1, 0);
         x.addCue(0, 'c', 3, 0, 1, 0);
         Houses.open(x);
-        expect(x, "an empty stage", "-s----" + "--");
+        expect(x, "an empty stage", "-s------");
         Check.due(1, "moves", () -> x.perform(0));
         Check.due(5, "is there", () -> x.place(0));
         Check.due(0, "the other one is not", () -> x.place(1));
@@ -665,9 +666,9 @@ public final class TermsSentencesTest {
         x.addCue(0, 'x', 0, 0, 1, 0);
         Houses.open(x);
         Houses.perform(x, 0, 1, 2, 3, 4);
-        expect(x, "all were told", "ddddd" + "---");
+        expect(x, "all were told", "ddddd---");
         x.perform(5);
-        expect(x, "those in its zone no more, for any machine there", "dddddd" + "u-");
+        expect(x, "those in its zone no more, for any machine there", "ddddddu-");
         x.perform(8);
         Check.due('u', "each of them", () -> x.obstacle(6));
     }
