@@ -840,6 +840,27 @@ public final class EveningSentencesTest {
         }
     }
 
+    @Says(promise = 21, value = "or -1 off the stage")
+    static void promise21OffTheStage() {
+        Theatrehouse x = Houses.withMachines(6);
+        for (int i = 0; i < 10; i++) {
+            x.addPerson(1, 1);
+        }
+        x.addWork(1, 1);
+        x.setRole(0, 0, 4);
+        x.addCue(0, 'e', 0, 2, 1, 0);
+        for (int i = 0; i < 6; i++) {
+            x.addCue(0, 'm', i, 7 - i, 1, 0);
+        }
+        Houses.open(x);
+        Houses.perform(x, 1, 2, 3, 4, 5, 6, 0);
+        for (int i = 0; i < 10; i++) {
+            int person = i;
+            Check.due(person == 4 ? 2 : -1, "one enters, nine have no role, and machines have moved: " + i,
+                () -> x.zone(person));
+        }
+    }
+
     @Says(promise = 21, value = "`person`: the number of the person")
     static void promise21PersonIsANumber() {
         for (int i = 0; i < 10; i++) {
